@@ -20,6 +20,14 @@ final class Due {
         is(call, got ? 1 : 0, want ? 1 : 0);
     }
 
+    void is(String call, String got, String want) {
+        asked++;
+        if (!got.equals(want)) {
+            wrong++;
+            System.out.println(call + " answered " + got + ", due is " + want);
+        }
+    }
+
     void end() {
         System.out.println(test + ": " + (asked - wrong) + " answers as due, " + wrong + " not");
         if (wrong != 0 || asked == 0) {
