@@ -8,6 +8,8 @@ public final class CloseUpdateTest {
             updates(due, side);
             fills(due, side);
         }
+        exactlyNinetyNine(due);
+        exactlyHundred(due);
         closedStreamsGoOn(due);
         closedReadsNothing(due);
         answerThenAlert(due);
@@ -106,6 +108,55 @@ public final class CloseUpdateTest {
         play.settle();
         due.is("told", play.x.side(1 - side, 3), 256);
         due.is("nothing waits", play.x.side(side, 7), 0);
+    }
+
+    /** An answer of 11 bytes and eleven updates wait: one more is taken. */
+    private static void exactlyNinetyNine(Due due) {
+        Play play = Play.ready();
+        play.x.command(0, 0, 0, 0);
+        for (int i = 0; i < 4; i++) {
+            play.x.update(1);
+        }
+        play.x.deliver(0);
+        for (int i = 0; i < 11; i++) {
+            play.x.update(1);
+        }
+        due.is("bytes wait", play.x.side(1, 7), 99);
+        due.is("update at 99", play.x.update(1), true);
+        due.is("update at 107", play.x.update(1), false);
+        play.settle();
+        due.is("all read", play.x.answer(1, 0), 1);
+        due.is("update", play.x.update(1), true);
+    }
+
+    /** A forged answer to a command that waits still makes a second one wait: 28 bytes, and nine updates. */
+    private static void exactlyHundred(Due due) {
+        Play play = Play.ready();
+        for (int i = 0; i < 6; i++) {
+            play.x.update(1);
+        }
+        play.deliverAll(1);
+        play.deliverAll(0);
+        for (int i = 0; i < 4; i++) {
+            play.x.update(0);
+        }
+        play.x.command(0, 0, 0, 0);
+        play.x.command(0, 0, 0, 0);
+        due.is("one command waits", play.x.side(0, 7), 14);
+        long key = Keys.ready().session[1];
+        for (int i = 0; i < 4; i++) {
+            key = Keys.next(key);
+        }
+        play.write(1, Reckon.join(Reckon.sealed(key, 0, 23, 1, 0, 0, 0), Reckon.bytes(23, 40)));
+        play.x.deliver(1);
+        due.is("two wait", play.x.side(0, 7), 28);
+        for (int i = 0; i < 9; i++) {
+            due.is("update", play.x.update(0), true);
+        }
+        due.is("bytes wait", play.x.side(0, 7), 100);
+        due.is("update at 100", play.x.update(0), false);
+        due.is("bytes wait", play.x.side(0, 7), 100);
+        due.is("close at 100", play.x.close(0), true);
     }
 
     private static void closedStreamsGoOn(Due due) {

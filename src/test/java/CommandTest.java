@@ -79,6 +79,9 @@ public final class CommandTest {
             due.is("about(1)", play.x.about(1), i + 1);
         }
         due.is("stored(7)", play.x.stored(7), 3);
+        due.is("answer(1, 3)", play.x.answer(1, 3), -1);
+        due.is("answer(1, -1)", play.x.answer(1, -1), -1);
+        due.is("answer(1, MIN)", play.x.answer(1, Integer.MIN_VALUE), -1);
     }
 
     private static void onTheWire(Due due) {

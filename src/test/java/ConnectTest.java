@@ -9,6 +9,7 @@ public final class ConnectTest {
         twentyTickets(due);
         sixty(due);
         olderOpen(due);
+        sameOpen(due);
         due.end();
     }
 
@@ -132,6 +133,23 @@ public final class ConnectTest {
         due.is("connect 61", play.x.connect(false), -1);
         due.is("state stays", play.x.side(0, 1), 2);
         due.is("CLOSED stays", play.x.side(0, 3), 0);
+    }
+
+    /** An OPEN of the connection that the server has, on its way to READY or behind it, changes nothing. */
+    private static void sameOpen(Due due) {
+        Play play = new Play(1, 2, 3);
+        play.x.connect(false);
+        play.x.disturb(0, 2);
+        play.x.deliver(0);
+        play.x.deliver(1);
+        play.x.disturb(0, 1);
+        play.x.deliver(0);
+        due.is("kind", play.x.deliver(0), 0);
+        due.is("server expects", play.x.side(1, 8), 1);
+        due.is("segments", play.x.side(1, 5), 2);
+        due.is("OPENED", play.x.datagram(1, 3, 1), 1);
+        play.settle();
+        due.is("READY", play.x.side(0, 2) + play.x.side(1, 2), 2);
     }
 
     private static void olderOpen(Due due) {

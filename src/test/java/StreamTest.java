@@ -8,6 +8,8 @@ public final class StreamTest {
         firstThatCame(due);
         oldAndFar(due);
         oldGot(due);
+        farthestBit(due);
+        nothingStays(due);
         sixteenOfWaiting(due);
         due.end();
     }
@@ -152,6 +154,45 @@ public final class StreamTest {
         due.is("confirmed", play.x.side(0, 6), 4);
         play.x.tick(5);
         due.is("nothing again", play.x.flying(0), 0);
+    }
+
+    /** Bit 2 confirms the last of the window: it is not sent again. */
+    private static void farthestBit(Due due) {
+        Play play = farSegment();
+        play.x.deliver(0);
+        play.x.deliver(1);
+        play.x.tick(5);
+        due.is("three again", play.x.flying(0), 3);
+        for (int k = 0; k < 3; k++) {
+            due.is("number", play.x.datagram(0, k, 2), 2 + k);
+        }
+        due.is("confirmed", play.x.side(0, 6), 2);
+    }
+
+    /** Bytes that wait, segments that were kept and half a record are gone with their connection. */
+    private static void nothingStays(Due due) {
+        for (int first = 0; first < 4; first++) {
+            Play play = Play.ready();
+            for (int i = 0; i < 7; i++) {
+                play.x.update(0);
+            }
+            for (int k = 0; k < first; k++) {
+                play.x.disturb(0, 0);
+            }
+            play.x.deliver(0);
+            due.is("expected", play.x.side(1, 8), first == 0 ? 3 : 2);
+            due.is("waits", play.x.side(0, 7), 24);
+            play.x.close(0);
+            play.loseAll(0);
+            play.loseAll(1);
+            play.x.connect(false);
+            due.is("waits", play.x.side(0, 7), 0);
+            play.handshake();
+            due.is("waits", play.x.side(0, 7), 0);
+            due.is("READY", play.x.side(0, 2) + play.x.side(1, 2), 2);
+            due.is("server expects", play.x.side(1, 8), 2);
+            due.is("client's segments", play.x.side(0, 5), 2);
+        }
     }
 
     private static void sixteenOfWaiting(Due due) {

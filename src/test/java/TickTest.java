@@ -5,6 +5,7 @@ public final class TickTest {
         refused(due);
         opening(due);
         segment(due);
+        serversSegment(due);
         lateConfirm(due);
         severalTimers(due);
         fullLine(due);
@@ -31,6 +32,9 @@ public final class TickTest {
             due.is("flying before", x.flying(0), sent);
             x.tick(1);
             due.is("flying", x.flying(0), sent + 1);
+            for (int what = 0; what < 5; what++) {
+                due.is("OPEN again", x.datagram(0, sent, what), what == 0 ? 1 : 0);
+            }
         }
         x.tick(4);
         due.is("state", x.side(0, 1), 1);
@@ -78,6 +82,29 @@ public final class TickTest {
         due.is("connect", play.x.connect(false), 2);
         play.settle();
         due.is("READY", play.x.side(1, 2), 1);
+    }
+
+    private static void serversSegment(Due due) {
+        Play play = new Play(1, 2, 3);
+        play.untilServerHello();
+        String hello = play.seen(1, 0);
+        String finished = play.seen(1, 1);
+        play.loseAll(1);
+        play.x.tick(5);
+        due.is("both again", play.seen(1, 0) + play.seen(1, 1), hello + finished);
+        play.x.tick(24);
+        due.is("state", play.x.side(1, 1), 2);
+        due.is("flying", play.x.flying(1), 10);
+        play.x.tick(1);
+        due.is("state", play.x.side(1, 1), 3);
+        due.is("RESET", play.seen(1, 10), Play.told(1, 4, 0, 0));
+        due.is("nothing behind it", play.x.flying(1), 11);
+        while (play.x.flying(1) > 1) {
+            play.x.disturb(1, 0);
+        }
+        due.is("the client's is UP", play.x.side(0, 1), 2);
+        due.is("RESET", play.x.deliver(1), 4);
+        due.is("the client's is BROKEN", play.x.side(0, 1), 3);
     }
 
     private static void lateConfirm(Due due) {
