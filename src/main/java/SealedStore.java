@@ -649,6 +649,7 @@ public final class SealedStore {
     private abstract static class Side {
         final int index;
         private final long seed;
+        private final int openingKind;
         final Line line;
         final Sender sender;
         final Receiver receiver = new Receiver();
@@ -670,6 +671,7 @@ public final class SealedStore {
             this.index = index;
             this.seed = seed;
             this.line = line;
+            openingKind = index == 0 ? OPENED : OPEN;
             sender = new Sender(line);
         }
 
@@ -723,7 +725,7 @@ public final class SealedStore {
         }
 
         final void arrive(Datagram arrived) {
-            if (arrived.kind == OPEN || arrived.kind == OPENED) {
+            if (arrived.kind == openingKind) {
                 arriveOpening(arrived.connection);
                 return;
             }

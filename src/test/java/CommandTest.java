@@ -16,7 +16,7 @@ public final class CommandTest {
     }
 
     private static void refused(Due due) {
-        SealedStore x = new SealedStore(1, 2, 3);
+        Counted x = new Counted(1, 2, 3);
         int[][] wrong = {{-1, 0, 0, 0}, {4, 0, 0, 0}, {0, -1, 0, 0}, {0, 16, 0, 0}, {0, 0, -1, 0},
             {0, 0, 65536, 0}, {0, 0, 0, -1}, {0, 0, 0, 65536}, {Integer.MIN_VALUE, 0, 0, 0}, {0, Integer.MAX_VALUE, 0, 0}};
         for (int[] w : wrong) {

@@ -1,12 +1,13 @@
 import java.util.Random;
 
 /**
- * All promises: runs of 512 calls drawn at random from fixed seeds, in manners from an honest line
- * to a forger who knows every key; each answer, and the whole visible state now and then, is
- * compared with Model.
+ * All promises: runs of calls drawn at random from fixed seeds, in manners from an honest line to a
+ * forger who knows every key; each answer is compared with Model, and in the end, with what is left
+ * of the 512 calls, the state that can be seen.
  */
 public final class FuzzTest {
-    private static final int CALLS = 512;
+    /** What the calls of one step and the state without its datagrams take at most. */
+    private static final int KEPT_FOR_THE_END = 80;
     private static final int HONEST = 0;
     private static final int LOSSY = 1;
     private static final int ALTERING = 2;
@@ -21,7 +22,7 @@ public final class FuzzTest {
     private final Random random;
     private final int manner;
     private final String run;
-    private final SealedStore x;
+    private final Counted x;
     private final Model m;
 
     private FuzzTest(Due due, int run) {
@@ -32,13 +33,13 @@ public final class FuzzTest {
         int a = random.nextInt();
         int b = random.nextInt();
         int c = random.nextInt();
-        x = new SealedStore(a, b, c);
+        x = new Counted(a, b, c);
         m = new Model(a, b, c);
     }
 
     public static void main(String[] args) {
         Due due = new Due("FuzzTest");
-        int runs = args.length > 0 ? Integer.parseInt(args[0]) : 2100;
+        int runs = args.length > 0 ? Integer.parseInt(args[0]) : 6000;
         for (int i = 0; i < runs; i++) {
             new FuzzTest(due, i).play();
         }
@@ -52,13 +53,12 @@ public final class FuzzTest {
     }
 
     private void play() {
-        for (int i = 0; i < CALLS; i++) {
+        int left = KEPT_FOR_THE_END + random.nextInt(random.nextBoolean() ? 400 : 150);
+        while (x.callsLeft() > left) {
             step();
-            if (i % 16 == 0 || i > CALLS - 3) {
-                compareAll();
-            }
         }
-        due.is(run + "ticks", m.ticks, x.tick(1) - 1);
+        due.is(run + "ticks", x.tick(1), m.tick(1));
+        compareAll();
     }
 
     private void step() {
@@ -226,26 +226,32 @@ public final class FuzzTest {
 
     private void compareAll() {
         for (int side = 0; side < 2; side++) {
-            for (int what = -1; what < 12; what++) {
+            for (int what = 0; what < 11; what++) {
                 side(side, what);
             }
             is("flying", x.flying(side), m.flying(side));
-            for (int k = 0; k < m.flying(side); k++) {
-                for (int what = -1; what < 22; what++) {
-                    datagram(side, k, what);
-                }
-            }
         }
-        for (int what = -1; what < 6; what++) {
+        for (int what = 0; what < 5; what++) {
             about(what);
         }
-        for (int key = -1; key < 17; key++) {
+        for (int key = 0; key < 16; key++) {
             stored(key);
         }
-        for (int n = 0; n <= m.commands.size() + 1; n++) {
-            for (int what = -1; what < 4; what++) {
-                answer(n, what);
-            }
+        for (int n = m.commands.size(); n > 0 && x.callsLeft() > 3; n--) {
+            answer(n, 0);
+            answer(n, 1);
+            answer(n, 2);
+        }
+        for (int k = 11; k >= 0; k--) {
+            compareDatagram(0, k);
+            compareDatagram(1, k);
+        }
+    }
+
+    private void compareDatagram(int direction, int k) {
+        boolean there = k < m.flying(direction);
+        for (int what = 0; there && what < 5 + m.datagram(direction, k, 4) && x.callsLeft() > 0; what++) {
+            datagram(direction, k, what);
         }
     }
 }

@@ -15,7 +15,7 @@ public final class LineTest {
     }
 
     private static void refused(Due due) {
-        SealedStore x = new SealedStore(1, 2, 3);
+        Counted x = new Counted(1, 2, 3);
         x.connect(false);
         for (int direction : new int[] {-1, 2, MIN, MAX}) {
             due.is("deliver", x.deliver(direction), -1);

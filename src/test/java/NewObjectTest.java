@@ -53,7 +53,7 @@ public final class NewObjectTest {
     }
 
     private static void newObject(Due due) {
-        SealedStore x = new SealedStore(0, -1, Integer.MIN_VALUE);
+        Counted x = new Counted(0, -1, Integer.MIN_VALUE);
         for (int side = 0; side < 2; side++) {
             for (int what = 0; what <= 10; what++) {
                 due.is("side(" + side + ", " + what + ")", x.side(side, what), what == 3 ? -1 : 0);

@@ -7,7 +7,7 @@ public final class NumbersTest {
 
     public static void main(String[] args) {
         Due due = new Due("NumbersTest");
-        SealedStore x = new SealedStore(1, 2, 3);
+        Counted x = new Counted(1, 2, 3);
         due.is("fold(1, 2, 3)", x.fold(1, 2, 3), 4995218822292233963L);
         Random random = new Random(16);
         long[] edges = {0, 1, -1, Long.MIN_VALUE, Long.MAX_VALUE, 255, 1L << 32};

@@ -1,9 +1,9 @@
 /** An object under test with the moves that many tests make. */
 final class Play {
-    final SealedStore x;
+    final Counted x;
 
     Play(int clientSeed, int serverSeed, int shared) {
-        x = new SealedStore(clientSeed, serverSeed, shared);
+        x = new Counted(clientSeed, serverSeed, shared);
     }
 
     /** An object whose client and server are READY on connection 1, with nothing on the way. */
@@ -87,5 +87,68 @@ final class Play {
                 throw new IllegalStateException("byte " + k + " could not be written");
             }
         }
+    }
+
+    /**
+     * Both sides READY, and of one side segments of 16 bytes, alone on its way, for a forger to write
+     * over: what waits behind four key updates is cut into them. The reader has forgeKey, number 0.
+     */
+    static Play withRoom(int side, int segments) {
+        Play play = ready();
+        for (int i = 0; i < 4 + 2 * segments; i++) {
+            play.x.update(side);
+        }
+        play.deliverAll(side);
+        play.deliverAll(1 - side);
+        return play;
+    }
+
+    static long forgeKey(int side) {
+        long key = Keys.ready().session[side];
+        for (int i = 0; i < 4; i++) {
+            key = Keys.next(key);
+        }
+        return key;
+    }
+
+    /**
+     * Lets these bytes arrive in the place of those on the way; in what is left of the last datagram
+     * stands the head of a record that never comes.
+     */
+    void forge(int direction, int... bytes) {
+        for (int at = 0; at < bytes.length;) {
+            int[] part = new int[x.datagram(direction, 0, 4)];
+            for (int i = 0; i < part.length; i++, at++) {
+                int behind = at - bytes.length;
+                part[i] = behind < 0 ? bytes[at] : behind == 0 ? 23 : behind == 1 ? 40 : 0;
+            }
+            write(direction, part);
+            x.deliver(direction);
+        }
+    }
+
+    /** All that side tells of both, about, and the heads of what is on the way. */
+    String state() {
+        StringBuilder text = new StringBuilder();
+        for (int side = 0; side < 2; side++) {
+            for (int what = 0; what <= 10; what++) {
+                text.append(x.side(side, what)).append(' ');
+            }
+            text.append("| ");
+            int flying = x.flying(side);
+            for (int k = 0; k < flying; k++) {
+                text.append(x.datagram(side, k, 1)).append('-').append(x.datagram(side, k, 2)).append(' ');
+            }
+            text.append("| ");
+        }
+        for (int what = 0; what <= 4; what++) {
+            text.append(x.about(what)).append(' ');
+        }
+        return text.toString();
+    }
+
+    /** How the side is: state, READY, CLOSED. */
+    String is(int side) {
+        return x.side(side, 1) + " " + x.side(side, 2) + " " + x.side(side, 3);
     }
 }

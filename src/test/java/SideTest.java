@@ -25,7 +25,7 @@ public final class SideTest {
             due.is("about(" + what + ")", play.x.about(what), -1);
         }
         due.is("about(5)", play.x.about(5), -1);
-        SealedStore x = new SealedStore(1, 2, 3);
+        Counted x = new Counted(1, 2, 3);
         due.is("side(0, 11) without a connection", x.side(0, 11), -1);
         due.is("side(1, -1) without a connection", x.side(1, -1), -1);
         due.is("side(2, 5) without a connection", x.side(2, 5), -1);

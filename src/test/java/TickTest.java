@@ -14,7 +14,7 @@ public final class TickTest {
     }
 
     private static void refused(Due due) {
-        SealedStore x = new SealedStore(1, 2, 3);
+        Counted x = new Counted(1, 2, 3);
         due.is("tick(0)", x.tick(0), -1);
         due.is("tick(-1)", x.tick(-1), -1);
         due.is("tick(51)", x.tick(51), -1);
@@ -25,7 +25,7 @@ public final class TickTest {
     }
 
     private static void opening(Due due) {
-        SealedStore x = new SealedStore(1, 2, 3);
+        Counted x = new Counted(1, 2, 3);
         x.connect(false);
         for (int sent = 1; sent <= 5; sent++) {
             x.tick(4);
