@@ -15,6 +15,7 @@ public final class EdgeCallsTest {
         connectBroken(due);
         connectSixty(due);
         olderGone(due);
+        olderHalfRecord(due);
         olderTimers(due);
         noReset(due);
         updateSends(due);
@@ -176,6 +177,20 @@ public final class EdgeCallsTest {
         due.is("the new one has its own", play.x.side(0, 5), 3);
         due.is("nothing waits", play.x.side(0, 7), 0);
         due.is("READY", play.is(0), "2 1 -1");
+    }
+
+    private static void olderHalfRecord(Due due) {
+        due.sentence("what was of an older one (streams ..) is gone there: half of a record");
+        for (int reader = 0; reader < 2; reader++) {
+            Play play = Play.withRoom(1 - reader, 1);
+            play.forge(1 - reader, 23, 40);
+            play.x.close(0);
+            play.loseAll(0);
+            play.loseAll(1);
+            play.x.connect(false);
+            play.settle();
+            due.is("both READY", play.is(0) + play.is(1), "2 1 -12 1 -1");
+        }
     }
 
     private static void olderTimers(Due due) {

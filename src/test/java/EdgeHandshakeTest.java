@@ -42,6 +42,7 @@ public final class EdgeHandshakeTest {
         ticketWhenRead(due);
         latestTicket(due);
         ticketAtClient(due);
+        latestRead(due);
         ticketAtServer(due);
         updateByte(due);
         readyType(due);
@@ -557,6 +558,22 @@ public final class EdgeHandshakeTest {
         due.is("1 byte", readyCode(0, sealed(1, 22, 4)), 10);
         due.is("3 first", readyCode(0, sealed(1, 22, 3, 1)), 10);
         due.is("5 first", readyCode(0, sealed(1, 22, 5, 1)), 10);
+    }
+
+    private static void latestRead(Due due) {
+        due.sentence("the latest ticket that it has read: the one read last, not the highest");
+        Play play = Play.withRoom(1, 2);
+        long key = Play.forgeKey(1);
+        play.forge(1, Reckon.join(Reckon.sealed(key, 0, 22, 4, 20), Reckon.sealed(key, 1, 22, 4, 3)));
+        due.is("about(3)", play.x.about(3), 3);
+        play.x.close(0);
+        play.loseAll(0);
+        play.loseAll(1);
+        play.x.connect(true);
+        play.x.deliver(0);
+        play.x.deliver(1);
+        Keys keys = new Keys(1, 2, 2, 3, KEYS.ticketSecret(3));
+        due.is("hello with ticket 3", play.seen(0, 0), Play.told(2, 2, 0, 0, record(keys.clientHello)));
     }
 
     private static void ticketAtServer(Due due) {

@@ -130,7 +130,19 @@ public final class EdgeRecordTest {
             play.x.deliver(1);
             due.is("length " + length, play.x.side(0, 3), 50);
         }
-        Play play = oneByteLeft(23);
+        int[] command = sealed(0, 0, 23, 1, 1, 1, 0, 1, 0, 0);
+        due.is("14 bytes of a segment", command.length, 14);
+        int[][] heads = {{20, 5}, {24, 5}, {23, 0}, {22, 41}};
+        for (int[] head : heads) {
+            Play play = Play.withRoom(0, 1);
+            play.forge(0, Reckon.join(command, head));
+            due.is("what stands before was read", play.x.about(1), 1);
+            due.is("both bytes " + head[0] + " " + head[1] + " and nothing behind them", play.x.side(1, 3), 50);
+        }
+        Play play = Play.withRoom(0, 1);
+        play.forge(0, Reckon.join(command, Reckon.bytes(23, 1)));
+        due.is("both bytes 23 1 and nothing behind them", play.x.side(1, 3), -1);
+        play = oneByteLeft(23);
         play.x.update(1);
         play.write(1, 7);
         play.x.deliver(1);
@@ -229,7 +241,10 @@ public final class EdgeRecordTest {
                 due.is(length + " bytes at " + reader, code(reader, 23, length, 0, 0, 0, 0), 20);
                 int[] tag = Reckon.word((int) Reckon.fold(Play.forgeKey(1 - reader), 0, 100));
                 int[] end = java.util.Arrays.copyOfRange(tag, 4 - length, 4);
-                due.is(length + " bytes of the empty tag", code(reader, Reckon.join(Reckon.bytes(23, length), end)), 20);
+                Play play = Play.withRoom(1 - reader, 1);
+                play.forge(1 - reader, Reckon.join(Reckon.bytes(23, length), end));
+                due.is(length + " bytes of the empty tag", play.x.side(reader, 3), 20);
+                due.is("nothing was opened", play.x.side(reader, 10), 0);
             }
         }
     }

@@ -15,6 +15,7 @@ public final class EdgeSessionTest {
         commandEdges(due);
         sentWhenReady(due);
         sentWhenAnswered(due);
+        sentBetween(due);
         sentWhenGiven(due);
         oneIsOut(due);
         notWhenClosed(due);
@@ -27,6 +28,7 @@ public final class EdgeSessionTest {
         numberOfTheLast(due);
         numberZero(due);
         numberNext(due);
+        numberSixtyOne(due);
         numberElse(due);
         sameAnswerAgain(due);
         get(due);
@@ -131,6 +133,34 @@ public final class EdgeSessionTest {
             due.is("when the answer is read", play.x.about(4), n < 3 ? n + 1 : 0);
             play.x.deliver(0);
         }
+    }
+
+    /** An answer and an ALERT come in one segment: the next command is sent before the ALERT is read. */
+    private static void sentBetween(Due due) {
+        due.sentence("(.. when an answer was read, ..): at once, and not when all is read");
+        Play play = Play.ready();
+        play.x.command(GET, 1, 0, 0);
+        play.x.command(GET, 2, 0, 0);
+        play.loseAll(0);
+        for (int i = 0; i < 8; i++) {
+            play.x.update(1);
+        }
+        play.deliverAll(1);
+        play.deliverAll(0);
+        play.x.disturb(1, 1);
+        play.write(1, java.util.Arrays.copyOfRange(answerAndAlert(), 16, 32));
+        play.x.deliver(1);
+        play.write(1, java.util.Arrays.copyOf(answerAndAlert(), 16));
+        play.x.deliver(1);
+        due.is("the ALERT is read", play.x.side(0, 3), 256 + 6);
+        due.is("the answer was", play.x.answer(1, 0), 1);
+        due.is("the second is out", play.x.about(4), 2);
+        due.is("sealed two", play.x.side(0, 9), 2);
+    }
+
+    private static int[] answerAndAlert() {
+        long key = Play.forgeKey(1);
+        return java.util.Arrays.copyOf(Reckon.join(Reckon.sealed(key, 0, 23, 1, 0, 0, 0), Reckon.sealed(key, 1, 21, 6)), 32);
     }
 
     private static void sentWhenGiven(Due due) {
@@ -286,6 +316,31 @@ public final class EdgeSessionTest {
         due.is("its answer", play.seen(1, 1), Play.told(1, 2, 5, 0, Reckon.sealed(KEYS.session[1], 3, 23, 3, 1, 0, 6)));
     }
 
+    /** The client has at most 60, but that is no rule of the server's: a forger's next one is carried out. */
+    private static void numberSixtyOne(Due due) {
+        due.sentence("that + 1: it is carried out (61 behind 60)");
+        Play play = new Play(1, 2, 3);
+        for (int n = 1; n <= 60; n++) {
+            play.x.command(PUT, 0, n, 0);
+        }
+        play.x.connect(false);
+        play.handshake();
+        for (int n = 1; n <= 60; n++) {
+            for (int direction : new int[] {0, 1, 1, 0}) {
+                play.x.deliver(direction);
+            }
+        }
+        due.is("the last", play.x.about(1), 60);
+        for (int i = 0; i < 6; i++) {
+            play.x.update(0);
+        }
+        play.deliverAll(0);
+        play.deliverAll(1);
+        play.forge(0, Reckon.sealed(Play.forgeKey(0), 0, 23, 61, PUT, 0, 0, 99, 0, 0));
+        due.is("the last", play.x.about(1), 61);
+        due.is("stored", play.x.stored(0), 99);
+    }
+
     private static void numberElse(Due due) {
         due.sentence("else it fails with 10");
         for (int number : new int[] {0, 1, 4, 5, 128, 255}) {
@@ -433,11 +488,14 @@ public final class EdgeSessionTest {
         due.sentence("and the number of the command carried out last (0 at first), with its answer; all this outlasts connections");
         Play play = new Play(1, 2, 3);
         due.is("0 at first", play.x.about(1), 0);
+        play.x.command(PUT, 1, 76, 0);
         play.x.command(PUT, 1, 77, 0);
         play.x.connect(false);
         play.handshake();
-        play.x.deliver(0);
-        due.is("carried out", play.x.about(1), 1);
+        for (int direction : new int[] {0, 1, 1, 0, 0}) {
+            play.x.deliver(direction);
+        }
+        due.is("two are carried out, one is answered", play.x.about(1) * 10 + play.x.about(4), 22);
         play.x.close(0);
         play.loseAll(0);
         play.loseAll(1);
@@ -445,9 +503,11 @@ public final class EdgeSessionTest {
         play.x.deliver(0);
         due.is("a new connection", play.x.side(1, 0), 2);
         due.is("the store", play.x.stored(1), 77);
-        due.is("the last", play.x.about(1), 1);
+        due.is("the last", play.x.about(1), 2);
         play.settle();
-        due.is("its answer: it was not there", play.x.answer(1, 0) * 10 + play.x.answer(1, 1), 10);
+        due.is("its answer", play.x.answer(2, 0), 1);
+        due.is("it was there", play.x.answer(2, 1), 1);
+        due.is("the value that it had", play.x.answer(2, 2), 76);
     }
 
     private static void answerRefused(Due due) {
@@ -466,6 +526,10 @@ public final class EdgeSessionTest {
         int[][] done = {{0, 1}, {1, 1}, {2, 9}, {3, -1}, {-1, -1}, {MIN, -1}, {MAX, -1}};
         for (int[] d : done) {
             due.is("answer(2, " + d[0] + ")", play.x.answer(2, d[0]), d[1]);
+        }
+        int[] first = {1, 0, 0};
+        for (int what = 0; what < 3; what++) {
+            due.is("answer(1, " + what + ")", play.x.answer(1, what), first[what]);
         }
         for (int n : new int[] {0, 3, 60, 61, -1, MIN, MAX}) {
             due.is("answer(" + n + ", 0)", play.x.answer(n, 0), -1);

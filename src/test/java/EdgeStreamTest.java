@@ -12,6 +12,7 @@ public final class EdgeStreamTest {
         fewerThanFour(due);
         fromFirstToLast(due);
         upToSixteen(due);
+        oneByte(due);
         behindEachRecord(due);
         openAbove(due);
         openSame(due);
@@ -176,6 +177,51 @@ public final class EdgeStreamTest {
         play.settle();
         due.is("they were in order", play.is(1), "2 1 -1");
         due.is("carried out", play.x.about(1), 1);
+    }
+
+    /**
+     * Three answers of 11 bytes wait at the server, whose window is full: a forger answers the first
+     * two commands before the server's answers can come.
+     */
+    private static Play threeAnswersWait() {
+        Play play = Play.ready();
+        for (int i = 0; i < 3; i++) {
+            play.x.command(0, 0, 0, 0);
+        }
+        for (int i = 0; i < 12; i++) {
+            play.x.update(1);
+        }
+        play.deliverAll(1);
+        play.deliverAll(0);
+        play.x.deliver(1);
+        long key = Play.forgeKey(1);
+        play.forge(1, Reckon.join(Reckon.sealed(key, 0, 23, 1, 0, 0, 0), Reckon.sealed(key, 1, 23, 2, 0, 0, 0)));
+        for (int i = 0; i < 2; i++) {
+            play.x.disturb(0, 0);
+            play.x.deliver(0);
+        }
+        return play;
+    }
+
+    private static void oneByte(Due due) {
+        due.sentence("whenever bytes wait .. the next segment of up to 16 of them is made and sent (of 1)");
+        Play play = threeAnswersWait();
+        due.is("wait", play.x.side(1, 7), 33);
+        play.x.deliver(1);
+        play.loseAll(1);
+        play.x.deliver(0);
+        due.is("wait", play.x.side(1, 7), 0);
+        due.is("three segments", play.x.flying(1), 3);
+        due.is("lengths", play.x.datagram(1, 0, 4) * 10000 + play.x.datagram(1, 1, 4) * 100 + play.x.datagram(1, 2, 4), 161601);
+        int last = play.x.datagram(1, 2, 2);
+        bringFirst(play, 1, last);
+        play.x.deliver(1);
+        due.is("the one byte is kept", play.seen(0, 0), Play.told(1, 3, last - 3, 4));
+        play.deliverAll(1);
+        play.deliverAll(0);
+        play.x.tick(5);
+        play.settle();
+        due.is("and taken", play.x.side(0, 8), last + 1);
     }
 
     private static void behindEachRecord(Due due) {
@@ -669,22 +715,26 @@ public final class EdgeStreamTest {
 
     private static void gotOfAnother(Due due) {
         due.sentence("GOT, UP, of the connection (of another, or BROKEN: nothing)");
-        Play play = updates(0, 1);
+        Play play = new Play(1, 2, 3);
+        play.untilClientHello();
         play.x.deliver(0);
+        due.is("GOT 1 of 1", play.seen(1, 0), Play.told(1, 3, 1, 0));
         play.x.disturb(1, 2);
-        play.x.close(0);
-        play.loseAll(0);
         play.x.connect(false);
         play.x.deliver(0);
-        play.x.disturb(1, 1);
-        play.x.disturb(1, 1);
+        while (play.x.datagram(1, 0, 1) != 1) {
+            play.x.disturb(1, 1);
+        }
         play.x.deliver(1);
         due.is("the hello of 2 is out", play.x.side(0, 5), 1);
-        due.is("GOT 3 of 1", play.seen(1, 0), Play.told(1, 3, 3, 0));
+        due.is("GOT 1 of 1", play.seen(1, 0), Play.told(1, 3, 1, 0));
         play.x.deliver(1);
         due.is("nothing is confirmed", play.x.side(0, 6), 0);
         play.x.tick(30);
         due.is("BROKEN", play.x.side(0, 1), 3);
+        while (play.x.datagram(1, 0, 1) != 3) {
+            play.x.disturb(1, 1);
+        }
         due.is("GOT", play.x.deliver(1), 3);
         due.is("BROKEN stays", play.x.side(0, 1), 3);
     }

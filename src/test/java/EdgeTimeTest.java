@@ -25,6 +25,7 @@ public final class EdgeTimeTest {
         resetLost(due);
         bothSides(due);
         brokenLosesStreams(due);
+        brokenLosesRecords(due);
         brokenLosesKeys(due);
         brokenReady(due);
         closedStays(due);
@@ -374,6 +375,26 @@ public final class EdgeTimeTest {
         due.is("a new one has its own stream", play.x.side(0, 5), 3);
         due.is("and reads it from its beginning", play.is(0), "2 1 -1");
         due.is("nothing waits", play.x.side(0, 7), 0);
+    }
+
+    /** Half of a record was taken: what comes on the next connection does not stand behind it. */
+    private static void brokenLosesRecords(Due due) {
+        due.sentence("A connection that is BROKEN loses .. records");
+        for (int reader = 0; reader < 2; reader++) {
+            Play play = Play.withRoom(1 - reader, 1);
+            play.forge(1 - reader, 23, 40);
+            play.x.update(reader);
+            play.loseAll(reader);
+            play.x.tick(29);
+            play.loseAll(reader);
+            play.x.tick(1);
+            due.is("BROKEN", play.is(reader), "3 0 -1");
+            play.settle();
+            due.is("by RESET", play.is(1 - reader), "3 0 -1");
+            play.x.connect(false);
+            play.settle();
+            due.is("both READY", play.is(0) + play.is(1), "2 1 -12 1 -1");
+        }
     }
 
     private static void brokenLosesKeys(Due due) {
