@@ -39,7 +39,7 @@ public final class FuzzTest {
 
     public static void main(String[] args) {
         Due due = new Due("FuzzTest");
-        int runs = args.length > 0 ? Integer.parseInt(args[0]) : 6000;
+        int runs = args.length > 0 ? Integer.parseInt(args[0]) : 14000;
         for (int i = 0; i < runs; i++) {
             new FuzzTest(due, i).play();
         }
